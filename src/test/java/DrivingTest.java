@@ -4,6 +4,7 @@ public final class DrivingTest {
         want();
         wantWithSlopeAndDriver();
         wantPastGearsNotFit();
+        fromTheFirstToTheLast();
         drives();
         drivesLearns();
         drivesLearnsAtTheLimit();
@@ -81,6 +82,21 @@ public final class DrivingTest {
         Due.is("want up past 4 and 5", 6, x.want(300));
         x.puts(6);
         Due.is("want down past 5 and 4", 3, x.want(0));
+    }
+
+    private static void fromTheFirstToTheLast() {
+        GearHolds x = new GearHolds();
+        x.gear(7, 24);
+        Due.is("want from NEUTRAL, the last alone", 7, x.want(0));
+        x.gear(1, 17);
+        Due.is("taken by the last", -3, x.gear(1, 24));
+        Due.is("SIMPLE to the last", 1, x.of(1, 4));
+        Due.is("CLUTCH of the last", 2, x.clutch(4, 3));
+        Due.is("ties with the last", 1, x.ties(25));
+        Due.is("way to the last", 7, x.way(1, 7, 0));
+        x.puts(1);
+        Due.is("drives up to the last", 7, x.drives(300, 1));
+        Due.is("drives down to the first", 1, x.drives(0, 1));
     }
 
     private static void drives() {
