@@ -233,7 +233,7 @@ public final class CallBoundsTest {
         Due.counts("p2: all not THERE", x, 0, 0, 0, 5);
     }
 
-    /** Terms: "the first of: BAD ..; NO ..": a GEAR outside with a SET that one has. */
+    /** Promise 2, Terms 2: "the first of: BAD ..; NO ..": a GEAR outside with a SET that one has. */
     private static void gearIsBadAheadOfNo() {
         Bounds.refused("p2: gear(0, 3)", BAD, CallBoundsTest::ends, x -> x.gear(0, 3));
         Bounds.refused("p2: gear(8, 3)", BAD, CallBoundsTest::ends, x -> x.gear(8, 3));
@@ -638,7 +638,7 @@ public final class CallBoundsTest {
         return x;
     }
 
-    /** Terms: "the first of: BAD ..; NO ..": i below -1, or alike, of GEARS not FIT. */
+    /** Promise 14, Terms 2: "the first of: BAD ..; NO ..": i below -1, or alike, of GEARS not FIT. */
     private static void wayIsBadAheadOfNo() {
         Bounds.refused("p14: way(1, 7, -2), not FIT", BAD, Bounds::busy, x -> x.way(1, 7, -2));
         Bounds.refused("p14: way(7, 7, 0), not FIT", BAD, Bounds::busy, x -> x.way(7, 7, 0));
@@ -680,7 +680,10 @@ public final class CallBoundsTest {
         Bounds.refused("p15: over(1, 7, 8), SHUT", NO, () -> failed(4, 2), x -> x.over(1, 7, 8));
     }
 
-    /** Terms: "the first of: BAD ..; NO ..": a tick outside, or alike, of GEARS not SIMPLE. */
+    /**
+     * Promise 15, Terms 2: "the first of: BAD ..; NO ..": a tick outside, or alike, of GEARS not
+     * SIMPLE.
+     */
     private static void overIsBadAheadOfNo() {
         Bounds.refused("p15: over(1, 6, 41)", BAD, Bounds::busy, x -> x.over(1, 6, 41));
         Bounds.refused("p15: over(1, 6, -1)", BAD, Bounds::busy, x -> x.over(1, 6, -1));
@@ -738,7 +741,7 @@ public final class CallBoundsTest {
         Bounds.refused("p16: worst(1, 7, 1), SHUT", NO, () -> failed(4, 2), x -> x.worst(1, 7, 1));
     }
 
-    /** Terms: "the first of: BAD ..; NO ..": what outside, or alike, of GEARS not SIMPLE. */
+    /** Promise 16, Terms 2: "the first of: BAD ..; NO ..": what outside, or alike, of GEARS not SIMPLE. */
     private static void worstIsBadAheadOfNo() {
         Bounds.refused("p16: worst(1, 6, 2)", BAD, Bounds::busy, x -> x.worst(1, 6, 2));
         Bounds.refused("p16: worst(1, 6, -1)", BAD, Bounds::busy, x -> x.worst(1, 6, -1));

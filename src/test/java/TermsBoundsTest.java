@@ -127,7 +127,10 @@ public final class TermsBoundsTest {
 
     // ---- gears and clutches
 
-    /** "CLUTCHES 0 .. 4": a SET may hold each of five, the first and the last alone, too. */
+    /**
+     * Terms 1 (promises 2, 11): "CLUTCHES 0 .. 4": a SET may hold each of five, the first and the
+     * last alone, too.
+     */
     private static void clutchesAreFive() {
         GearHolds x = new GearHolds();
         x.gear(1, 31);
@@ -143,7 +146,7 @@ public final class TermsBoundsTest {
         Due.is("GEARS of the last but one", 0, x.clutch(3, 3));
     }
 
-    /** "GEARS 1 .. 7": seven may be THERE at once. */
+    /** Terms 1 (promise 2): "GEARS 1 .. 7": seven may be THERE at once. */
     private static void gearsAreSeven() {
         GearHolds x = new GearHolds();
         for (int g = 1; g <= 7; g++) {
@@ -152,7 +155,7 @@ public final class TermsBoundsTest {
         Due.is("FIT GEARS", 254, x.state(12));
     }
 
-    /** "0 at first: it is not THERE". */
+    /** Terms 1 (promises 1, 10): "0 at first: it is not THERE". */
     private static void setIsZeroAtFirst() {
         GearHolds x = new GearHolds();
         Due.is("SET of the first", 0, x.of(1, 0));
@@ -160,7 +163,10 @@ public final class TermsBoundsTest {
         Due.is("it is not THERE", NO, x.puts(7));
     }
 
-    /** "0 ..: it is not THERE": it is not FIT, ties nothing, and is SIMPLE to none. */
+    /**
+     * Terms 1 (promises 2, 10): "0 ..: it is not THERE": it is not FIT, ties nothing, and is SIMPLE
+     * to none.
+     */
     private static void notThereWithSetZero() {
         GearHolds x = new GearHolds();
         x.gear(1, 1);
@@ -173,7 +179,7 @@ public final class TermsBoundsTest {
         Due.is("FIT GEARS", 0, x.state(12));
     }
 
-    /** "no two that are THERE the same": the least and the greatest SET. */
+    /** Terms 1 (promise 2): "no two that are THERE the same": the least and the greatest SET. */
     private static void noTwoThereTheSame() {
         GearHolds x = new GearHolds();
         x.gear(1, 31);
@@ -185,7 +191,7 @@ public final class TermsBoundsTest {
         Due.is("the greatest, left by the other one", 0, x.gear(7, 31));
     }
 
-    /** "NEUTRAL is told as 0". */
+    /** Terms 1 (promises 19, 20): "NEUTRAL is told as 0". */
     private static void neutralIsZero() {
         GearHolds x = Due.two();
         Due.is("puts answers NEUTRAL", 0, x.puts(2));
@@ -195,7 +201,7 @@ public final class TermsBoundsTest {
         Due.is("drives without GEARS", 0, new GearHolds().drives(300, 1));
     }
 
-    /** "STATE of a CLUTCH: 0 SOUND (at first)". */
+    /** Terms 1 (promises 1, 11): "STATE of a CLUTCH: 0 SOUND (at first)". */
     private static void clutchesAreSoundAtFirst() {
         GearHolds x = new GearHolds();
         Due.is("STATE of the first", SOUND, x.clutch(0, 0));
@@ -206,7 +212,10 @@ public final class TermsBoundsTest {
         Due.is("FIT with one CLUTCH", 1, x.of(1, 1));
     }
 
-    /** "FIT, if no CLUTCH of its SET is OPEN": each one alone, the first and the last. */
+    /**
+     * Terms 1 (promises 3, 10): "FIT, if no CLUTCH of its SET is OPEN": each one alone, the first
+     * and the last.
+     */
     private static void fitWithoutAnOpenClutch() {
         for (int c = 0; c <= 4; c++) {
             GearHolds x = new GearHolds();
@@ -218,7 +227,10 @@ public final class TermsBoundsTest {
         }
     }
 
-    /** "and each that is SHUT is of its SET": each one alone, the first and the last. */
+    /**
+     * Terms 1 (promises 3, 10): "and each that is SHUT is of its SET": each one alone, the first
+     * and the last.
+     */
     private static void fitWithEachShutClutch() {
         for (int c = 0; c <= 4; c++) {
             GearHolds x = new GearHolds();
@@ -230,7 +242,10 @@ public final class TermsBoundsTest {
         }
     }
 
-    /** FIT with all CLUTCHES SHUT: the GEAR of all alone; with all OPEN: none; with some of both. */
+    /**
+     * Terms 1 (promises 3, 20): FIT with all CLUTCHES SHUT: the GEAR of all alone; with all OPEN:
+     * none; with some of both.
+     */
     private static void fitWithAllClutchesFailed() {
         int[] sets = {31, 30, 15, 1, 16, 21, 10};
         GearHolds x = new GearHolds();
@@ -251,7 +266,10 @@ public final class TermsBoundsTest {
         }
     }
 
-    /** "TIES, if two GEARS or more that are THERE have their SETS within it": none, one, two, seven. */
+    /**
+     * Terms 1 (promise 12): "TIES, if two GEARS or more that are THERE have their SETS within it":
+     * none, one, two, seven.
+     */
     private static void tiesFromTwoGearsOn() {
         int[] sets = {31, 1, 16, 3, 24, 30, 15};
         GearHolds x = new GearHolds();
@@ -266,7 +284,10 @@ public final class TermsBoundsTest {
         Due.is("ties, the first and the last", 1, x.ties(17));
     }
 
-    /** "two GEARS or more that are THERE": FIT or not; no more, once they are not THERE. */
+    /**
+     * Terms 1 (promise 12): "two GEARS or more that are THERE": FIT or not; no more, once they are
+     * not THERE.
+     */
     private static void tiesOfGearsNotFit() {
         GearHolds x = Due.two();
         failAll(x, 0);
@@ -279,7 +300,10 @@ public final class TermsBoundsTest {
         Due.is("ties, one THERE", 0, x.ties(7));
     }
 
-    /** "SIMPLE: .. one CLUTCH being of the SET of the one alone, one of .. the other one alone, no more". */
+    /**
+     * Terms 1 (promises 10, 13): "SIMPLE: .. one CLUTCH being of the SET of the one alone, one of
+     * .. the other one alone, no more".
+     */
     private static void simpleOfEachPairOfSets() {
         for (int a = 1; a <= 31; a++) {
             for (int b = 1; b <= 31; b++) {
@@ -314,7 +338,10 @@ public final class TermsBoundsTest {
         Due.is(what + ": to how many SIMPLE", due ? 1 : 0, x.of(7, 4));
     }
 
-    /** "SIMPLE: two unlike FIT GEARS": not, if the one or the other one or both are not FIT. */
+    /**
+     * Terms 1 (promises 10, 13): "SIMPLE: two unlike FIT GEARS": not, if the one or the other one
+     * or both are not FIT.
+     */
     private static void simpleOfFitGearsAlone() {
         int[] failing = {1, 2, 0};
         for (int c : failing) {
@@ -330,7 +357,10 @@ public final class TermsBoundsTest {
 
     // ---- ways
 
-    /** "the fewest GEARS behind that from which it goes (it is not told among them)": one SHIFT. */
+    /**
+     * Terms 1 (promise 14): "the fewest GEARS behind that from which it goes (it is not told among
+     * them)": one SHIFT.
+     */
     private static void wayOfOneShift() {
         GearHolds x = Due.two();
         Due.is("how many", 1, x.way(2, 1, -1));
@@ -348,7 +378,10 @@ public final class TermsBoundsTest {
         return x;
     }
 
-    /** "from one to the next SIMPLE, the last being that other one": the most SHIFTS. */
+    /**
+     * Terms 1 (promise 14): "from one to the next SIMPLE, the last being that other one": the most
+     * SHIFTS.
+     */
     private static void wayOfTheMostShifts() {
         GearHolds x = chain();
         int[] there = {4, 2, 7};
@@ -362,7 +395,10 @@ public final class TermsBoundsTest {
         Due.is("no fourth", NO_WAY, x.way(1, 7, 3));
     }
 
-    /** "the fewest GEARS": a longer WAY by lower numbers does not go ahead of a shorter one. */
+    /**
+     * Terms 1 (promise 14): "the fewest GEARS": a longer WAY by lower numbers does not go ahead of
+     * a shorter one.
+     */
     private static void wayOfTheFewest() {
         GearHolds x = chain();
         x.gear(6, 10);
@@ -376,7 +412,10 @@ public final class TermsBoundsTest {
         Due.is("at once, not by 1", 6, y.way(5, 6, 0));
     }
 
-    /** "of like ones the first by numbers": the first GEAR that differs tells, also not the first one. */
+    /**
+     * Terms 1 (promise 14): "of like ones the first by numbers": the first GEAR that differs tells,
+     * also not the first one.
+     */
     private static void wayOfLikeOnesFirstByNumbers() {
         GearHolds x = new GearHolds();
         int[] sets = {24, 20, 6, 12, 3};
@@ -392,7 +431,10 @@ public final class TermsBoundsTest {
         Due.is("back, the first, 4 alone", 4, x.way(1, 5, 0));
     }
 
-    /** "WAY from a FIT GEAR to another one .., from one to the next SIMPLE": FIT GEARS between alone. */
+    /**
+     * Terms 1 (promise 14): "WAY from a FIT GEAR to another one .., from one to the next SIMPLE":
+     * FIT GEARS between alone.
+     */
     private static void wayThroughFitGearsAlone() {
         GearHolds x = new GearHolds();
         x.gear(1, 3);
@@ -410,7 +452,7 @@ public final class TermsBoundsTest {
         Due.is("by the other one", 6, x.way(1, 7, 0));
     }
 
-    /** "there may be none". */
+    /** Terms 1 (promise 14): "there may be none". */
     private static void wayMayBeNone() {
         GearHolds x = chain();
         x.gear(2, 0);
@@ -425,7 +467,7 @@ public final class TermsBoundsTest {
 
     // ---- overlaps
 
-    /** "FILL .., TRUE .. (1 .. 20 each; 8 at first)". */
+    /** Terms 1 (promises 1, 11): "FILL .., TRUE .. (1 .. 20 each; 8 at first)". */
     private static void fillAndTrueAreEightAtFirst() {
         GearHolds x = new GearHolds();
         for (int c = 0; c <= 4; c++) {
@@ -434,7 +476,7 @@ public final class TermsBoundsTest {
         }
     }
 
-    /** "RAMP R (.. 5 at first)", "LIMIT (.. 100 at first)". */
+    /** Terms 1 (promises 1, 20): "RAMP R (.. 5 at first)", "LIMIT (.. 100 at first)". */
     private static void rampAndLimitAtFirst() {
         GearHolds x = Due.two();
         Due.is("RAMP", 5, x.state(10));
@@ -443,7 +485,10 @@ public final class TermsBoundsTest {
         Due.is("OVER by RAMP at first", 800, x.over(1, 2, 9));
     }
 
-    /** "SHARE ..: 1000 times (t less ..) by R, cut, 0 at least, 1000 at most": all ticks, TRUES, some RAMPS. */
+    /**
+     * Terms 1 (promise 15): "SHARE ..: 1000 times (t less ..) by R, cut, 0 at least, 1000 at most":
+     * all ticks, TRUES, some RAMPS.
+     */
     private static void overAtEachTick() {
         int[] ramps = {1, 2, 3, 7, 11, 12};
         int[] fills = {1, 8, 20};
@@ -479,7 +524,10 @@ public final class TermsBoundsTest {
         return ticks >= ramp ? 1000 : 1000 * ticks / ramp;
     }
 
-    /** "of GOING: .. less FILL of COMING": TRUE and FILL of the one that goes tell nothing. */
+    /**
+     * Terms 1 (promise 15): "of GOING: .. less FILL of COMING": TRUE and FILL of the one that goes
+     * tell nothing.
+     */
     private static void overHangsOnComingAlone() {
         GearHolds x = Due.two();
         x.trues(1, 20);
@@ -490,7 +538,7 @@ public final class TermsBoundsTest {
         Due.is("FLARE the other way", 1000, x.worst(2, 1, 0));
     }
 
-    /** "FLARE: 0 less the least OVER ..; BIND: the greatest (0 at least both)". */
+    /** Terms 1 (promise 16): "FLARE: 0 less the least OVER ..; BIND: the greatest (0 at least both)". */
     private static void flareAndBindAreZeroAtLeast() {
         GearHolds x = filled(8, 8);
         Due.is("FLARE, in time", 0, x.worst(1, 2, 0));
@@ -501,7 +549,7 @@ public final class TermsBoundsTest {
         Due.is("FLARE, early", 0, x.worst(1, 2, 0));
     }
 
-    /** SHARE "0 at least, 1000 at most": so FLARE and BIND are 1000 at most. */
+    /** Terms 1 (promise 16): SHARE "0 at least, 1000 at most": so FLARE and BIND are 1000 at most. */
     private static void flareAndBindAreThousandAtMost() {
         GearHolds late = filled(1, 20);
         late.sets(0, 12);
@@ -515,7 +563,10 @@ public final class TermsBoundsTest {
         Due.is("BIND, earliest, shortest RAMP", 1000, early.worst(1, 2, 1));
     }
 
-    /** "of t 0 .. 40": they are found where one tick alone has them, the first and the last such. */
+    /**
+     * Terms 1 (promise 16): "of t 0 .. 40": they are found where one tick alone has them, the first
+     * and the last such.
+     */
     private static void flareAndBindAtTheLastTickOfAll() {
         int[][] fillAndTrue = {{1, 2}, {2, 1}, {19, 20}, {20, 19}};
         int[] flare = {1000, 0, 1000, 0};
@@ -527,7 +578,7 @@ public final class TermsBoundsTest {
         }
     }
 
-    /** "by R, cut": the SHARES are cut, each alone, ahead of being put together. */
+    /** Terms 1 (promise 16): "by R, cut": the SHARES are cut, each alone, ahead of being put together. */
     private static void flareAndBindAreCut() {
         GearHolds x = filled(8, 9);
         x.sets(0, 12);
@@ -553,7 +604,10 @@ public final class TermsBoundsTest {
         Due.is(what + ": FILL", fill, x.clutch(2, 2));
     }
 
-    /** "FILL of COMING is 1 more .., if FLARE is above LIMIT": at it, one above, the least LIMIT. */
+    /**
+     * Terms 1 (promise 18): "FILL of COMING is 1 more .., if FLARE is above LIMIT": at it, one
+     * above, the least LIMIT.
+     */
     private static void learntIfFlareIsAboveLimit() {
         GearHolds x = Due.two();
         x.trues(2, 9);
@@ -565,7 +619,10 @@ public final class TermsBoundsTest {
         drivesUpWithLimit("FLARE 1000 above the greatest LIMIT", x, 999, 3, 0, 11);
     }
 
-    /** "else 1 less .., if BIND is": at LIMIT, one above, the least LIMIT, the greatest. */
+    /**
+     * Terms 1 (promise 18): "else 1 less .., if BIND is": at LIMIT, one above, the least LIMIT, the
+     * greatest.
+     */
     private static void learntIfBindIsAboveLimit() {
         GearHolds x = Due.two();
         x.trues(2, 7);
@@ -577,7 +634,7 @@ public final class TermsBoundsTest {
         drivesUpWithLimit("BIND 1000 above the greatest LIMIT", x, 999, 0, 3, 5);
     }
 
-    /** "LIMIT (0 .. 999": FLARE or BIND below 1000 are not above the greatest. */
+    /** Terms 1 (promise 18): "LIMIT (0 .. 999": FLARE or BIND below 1000 are not above the greatest. */
     private static void learntNothingAtTheGreatestLimitButOne() {
         GearHolds x = Due.two();
         x.sets(0, 12);
@@ -589,7 +646,7 @@ public final class TermsBoundsTest {
         drivesUpWithLimit("BIND 584 at the greatest LIMIT", x, 999, 0, 0, 8);
     }
 
-    /** "above LIMIT": FLARE and BIND of 0 are not above the least LIMIT. */
+    /** Terms 1 (promise 18): "above LIMIT": FLARE and BIND of 0 are not above the least LIMIT. */
     private static void learntNothingWithoutFlareOrBind() {
         drivesUpWithLimit("in time", Due.two(), 0, 0, 0, 8);
     }
@@ -601,7 +658,7 @@ public final class TermsBoundsTest {
         }
     }
 
-    /** "FILL of COMING is 1 more (20 at most)". */
+    /** Terms 1 (promise 18): "FILL of COMING is 1 more (20 at most)". */
     private static void fillIsTwentyAtMost() {
         GearHolds x = Due.two();
         x.sets(0, 1);
@@ -614,7 +671,7 @@ public final class TermsBoundsTest {
         Due.is("FLARES", 12, x.state(5));
     }
 
-    /** "1 less (1 at least)". */
+    /** Terms 1 (promise 18): "1 less (1 at least)". */
     private static void fillIsOneAtLeast() {
         GearHolds x = Due.two();
         x.sets(0, 1);
@@ -629,13 +686,13 @@ public final class TermsBoundsTest {
 
     // ---- wanted gears
 
-    /** "IN: the GEAR that is in (NEUTRAL at first)". */
+    /** Terms 2 (promises 1, 20): "IN: the GEAR that is in (NEUTRAL at first)". */
     private static void inIsNeutralAtFirst() {
         Due.is("IN", 0, new GearHolds().state(0));
         Due.is("IN, GEARS being THERE", 0, Due.six().state(0));
     }
 
-    /** "UP 20 times its number, DOWN 20 times its number less 15 at first". */
+    /** Terms 2 (promises 1, 10): "UP 20 times its number, DOWN 20 times its number less 15 at first". */
     private static void upAndDownAtFirst() {
         GearHolds x = new GearHolds();
         Due.is("UP of the first", 20, x.of(1, 2));
@@ -666,7 +723,7 @@ public final class TermsBoundsTest {
         Due.is(what + ": one below DOWN", 1, x.want(down - 1));
     }
 
-    /** "SLOPE .., DRIVER .., both 0 at first": nothing is added. */
+    /** Terms 2 (promises 1, 20): "SLOPE .., DRIVER .., both 0 at first": nothing is added. */
     private static void slopeAndDriverAreZeroAtFirst() {
         GearHolds x = new GearHolds();
         Due.is("SLOPE", 3, x.state(8));
@@ -674,26 +731,35 @@ public final class TermsBoundsTest {
         turnsAt("nothing added", middle(100, 50, 0, 0), 100, 50);
     }
 
-    /** "5 times SLOPE .. are added to each UP and DOWN": the least. */
+    /** Terms 2 (promise 17): "5 times SLOPE .. are added to each UP and DOWN": the least. */
     private static void addedAtTheLeast() {
         turnsAt("SLOPE -3", middle(100, 50, -3, 0), 85, 35);
         turnsAt("SLOPE -1", middle(100, 50, -1, 0), 95, 45);
     }
 
-    /** "5 times SLOPE and 10 times DRIVER are added": the greatest of each, and of both. */
+    /**
+     * Terms 2 (promise 17): "5 times SLOPE and 10 times DRIVER are added": the greatest of each,
+     * and of both.
+     */
     private static void addedAtTheGreatest() {
         turnsAt("SLOPE 3", middle(100, 50, 3, 0), 115, 65);
         turnsAt("DRIVER 3", middle(100, 50, 0, 3), 130, 80);
         turnsAt("SLOPE 3, DRIVER 3", middle(100, 50, 3, 3), 145, 95);
     }
 
-    /** "5 times SLOPE and 10 times DRIVER": the least SLOPE and the greatest DRIVER. */
+    /**
+     * Terms 2 (promise 17): "5 times SLOPE and 10 times DRIVER": the least SLOPE and the greatest
+     * DRIVER.
+     */
     private static void addedOfBoth() {
         turnsAt("SLOPE -3, DRIVER 3", middle(100, 50, -3, 3), 115, 65);
         turnsAt("SLOPE 1, DRIVER 1", middle(100, 50, 1, 1), 115, 65);
     }
 
-    /** "if v is UP of IN (with what is added) or more": UP 0, and below 0 with what is added. */
+    /**
+     * Terms 2 (promise 17): "if v is UP of IN (with what is added) or more": UP 0, and below 0 with
+     * what is added.
+     */
     private static void wantWithUpBelowZero() {
         Due.is("UP 0", 7, middle(0, 0, 0, 0).want(0));
         Due.is("UP -15", 7, middle(0, 0, -3, 0).want(0));
@@ -702,7 +768,10 @@ public final class TermsBoundsTest {
         Due.is("UP 16 - 15", 4, middle(16, 0, -3, 0).want(0));
     }
 
-    /** "if v is UP of IN (with what is added) or more": UP 300, and above 300 with what is added. */
+    /**
+     * Terms 2 (promise 17): "if v is UP of IN (with what is added) or more": UP 300, and above 300
+     * with what is added.
+     */
     private static void wantWithUpAboveAllSpeeds() {
         Due.is("UP 300", 7, middle(300, 0, 0, 0).want(300));
         Due.is("UP 300 and 5", 4, middle(300, 0, 1, 0).want(300));
@@ -711,7 +780,10 @@ public final class TermsBoundsTest {
         Due.is("UP 256 and 45", 4, middle(256, 0, 3, 3).want(300));
     }
 
-    /** "if v is below DOWN of IN (likewise)": DOWN 0, and below 0 with what is added. */
+    /**
+     * Terms 2 (promise 17): "if v is below DOWN of IN (likewise)": DOWN 0, and below 0 with what is
+     * added.
+     */
     private static void wantWithDownBelowZero() {
         Due.is("DOWN 0", 4, middle(300, 0, 0, 0).want(0));
         Due.is("DOWN 1", 1, middle(300, 1, 0, 0).want(0));
@@ -720,7 +792,10 @@ public final class TermsBoundsTest {
         Due.is("DOWN 16 - 15", 1, middle(300, 16, -3, 0).want(0));
     }
 
-    /** "if v is below DOWN of IN (likewise)": DOWN 300, and above 300 with what is added. */
+    /**
+     * Terms 2 (promise 17): "if v is below DOWN of IN (likewise)": DOWN 300, and above 300 with
+     * what is added.
+     */
     private static void wantWithDownAboveAllSpeeds() {
         Due.is("UP and DOWN 305 at 300", 1, middle(300, 300, 1, 0).want(300));
         GearHolds x = middle(300, 300, 0, 0);
@@ -731,7 +806,10 @@ public final class TermsBoundsTest {
         Due.is("DOWN 305 at 300", 1, x.want(300));
     }
 
-    /** "the next FIT GEAR above, if .. there is one": from the last, and from the last that is FIT. */
+    /**
+     * Terms 2 (promise 17): "the next FIT GEAR above, if .. there is one": from the last, and from
+     * the last that is FIT.
+     */
     private static void wantAboveTheLast() {
         GearHolds x = middle(0, 0, 0, 0);
         x.up(7, 0);
@@ -746,7 +824,10 @@ public final class TermsBoundsTest {
         Due.is("none above, so the next below", 1, x.want(300));
     }
 
-    /** "the next FIT one below, if .. there is one; else IN": from the first, and the first FIT one. */
+    /**
+     * Terms 2 (promise 17): "the next FIT one below, if .. there is one; else IN": from the first,
+     * and the first FIT one.
+     */
     private static void wantBelowTheFirst() {
         GearHolds x = middle(300, 300, 0, 0);
         x.down(1, 300);
@@ -758,7 +839,10 @@ public final class TermsBoundsTest {
         Due.is("below the first that is FIT", 4, x.want(0));
     }
 
-    /** "else the next FIT one below": UP is asked ahead of DOWN, where both would be. */
+    /**
+     * Terms 2 (promise 17): "else the next FIT one below": UP is asked ahead of DOWN, where both
+     * would be.
+     */
     private static void wantUpGoesAheadOfDown() {
         GearHolds x = middle(50, 100, 0, 0);
         Due.is("between UP and DOWN", 7, x.want(75));
@@ -767,7 +851,10 @@ public final class TermsBoundsTest {
         Due.is("one below DOWN", 7, x.want(99));
     }
 
-    /** "IN being NEUTRAL: the least FIT GEAR; if there is none NEUTRAL", at any speed. */
+    /**
+     * Terms 2 (promise 17): "IN being NEUTRAL: the least FIT GEAR; if there is none NEUTRAL", at
+     * any speed.
+     */
     private static void wantFromNeutral() {
         GearHolds x = middle(0, 300, 0, 0);
         x.puts(0);
@@ -783,7 +870,10 @@ public final class TermsBoundsTest {
 
     // ---- what drops IN
 
-    /** "IN becomes NEUTRAL at once, .. (its SET becoming another one": 0, with an OPEN one, without a SHUT one. */
+    /**
+     * Terms 2 (promise 2): "IN becomes NEUTRAL at once, .. (its SET becoming another one": 0, with
+     * an OPEN one, without a SHUT one.
+     */
     private static void inGoesWithItsSet() {
         GearHolds x = Due.two();
         x.puts(2);
@@ -801,7 +891,10 @@ public final class TermsBoundsTest {
         Due.is("IN, its SET without a SHUT one", 0, z.state(0));
     }
 
-    /** "IN becomes NEUTRAL at once, .. by a CLUTCH's STATE)": the first and the last CLUTCH. */
+    /**
+     * Terms 2 (promise 3): "IN becomes NEUTRAL at once, .. by a CLUTCH's STATE)": the first and the
+     * last CLUTCH.
+     */
     private static void inGoesWithAClutch() {
         int[] open = {0, 4};
         for (int c : open) {
@@ -820,7 +913,10 @@ public final class TermsBoundsTest {
         }
     }
 
-    /** "whenever it is a GEAR that is no more FIT": not by another GEAR, not while FIT. */
+    /**
+     * Terms 2 (promises 2, 3): "whenever it is a GEAR that is no more FIT": not by another GEAR,
+     * not while FIT.
+     */
     private static void inStaysWhileFit() {
         GearHolds x = new GearHolds();
         x.gear(1, 17);
@@ -836,7 +932,10 @@ public final class TermsBoundsTest {
         Due.is("IN, FIT with its SET", 1, x.state(0));
     }
 
-    /** "it is a GEAR that is no more FIT": NEUTRAL stays, whatever fails or comes. */
+    /**
+     * Terms 2 (promises 2, 3): "it is a GEAR that is no more FIT": NEUTRAL stays, whatever fails or
+     * comes.
+     */
     private static void inNeutralStays() {
         GearHolds x = Due.two();
         x.fails(0, OPEN);
@@ -847,7 +946,7 @@ public final class TermsBoundsTest {
 
     // ---- ticks
 
-    /** "A TICK ..: the TIME (0 at first) is 1 more", whatever else the TICK does. */
+    /** Terms 2 (promise 18): "A TICK ..: the TIME (0 at first) is 1 more", whatever else the TICK does. */
     private static void timeIsOneMore() {
         GearHolds x = new GearHolds();
         Due.is("TIME at first", 0, x.state(1));
@@ -873,7 +972,7 @@ public final class TermsBoundsTest {
         return x;
     }
 
-    /** "HOLD (0 at first) 1 less (0 at least)". */
+    /** Terms 2 (promise 18): "HOLD (0 at first) 1 less (0 at least)". */
     private static void holdIsZeroAtLeast() {
         GearHolds x = Due.two();
         Due.is("HOLD at first", 0, x.state(2));
@@ -890,7 +989,7 @@ public final class TermsBoundsTest {
         Due.is("HOLD, no less by sixty", 0, y.state(2));
     }
 
-    /** "from NEUTRAL it is IN (no SHIFT; it does not count as up)". */
+    /** Terms 2 (promise 18): "from NEUTRAL it is IN (no SHIFT; it does not count as up)". */
     private static void fromNeutralDoesNotCountAsUp() {
         GearHolds x = Due.two();
         x.trues(0, 20);
@@ -907,7 +1006,10 @@ public final class TermsBoundsTest {
         Due.is("one GEAR a TICK", 1, Due.two().drives(300, 1));
     }
 
-    /** "if it is above IN and HOLD is above 0, nothing": HOLD 1 behind the TICK's own less, then 0. */
+    /**
+     * Terms 2 (promise 18): "if it is above IN and HOLD is above 0, nothing": HOLD 1 behind the
+     * TICK's own less, then 0.
+     */
     private static void heldUpWhileHoldIsAboveZero() {
         GearHolds x = hunted();
         for (int hold = 9; hold >= 1; hold--) {
@@ -922,7 +1024,7 @@ public final class TermsBoundsTest {
         Due.is("LAST UP", 13, x.state(3));
     }
 
-    /** "if it is above IN and HOLD is above 0": down goes all the same. */
+    /** Terms 2 (promise 18): "if it is above IN and HOLD is above 0": down goes all the same. */
     private static void notHeldDown() {
         GearHolds x = hunted();
         x.puts(2);
@@ -933,7 +1035,10 @@ public final class TermsBoundsTest {
         Due.is("HOLD, six TICKS behind up or more", 4, x.state(2));
     }
 
-    /** "from NEUTRAL it is IN", "From a GEAR: if .. HOLD is above 0": from NEUTRAL it is not held. */
+    /**
+     * Terms 2 (promise 18): "from NEUTRAL it is IN", "From a GEAR: if .. HOLD is above 0": from
+     * NEUTRAL it is not held.
+     */
     private static void notHeldFromNeutral() {
         GearHolds x = hunted();
         x.puts(0);
@@ -942,7 +1047,10 @@ public final class TermsBoundsTest {
         Due.is("held then", 1, x.drives(300, 1));
     }
 
-    /** "else, if there is a WAY to it": else nothing but TIME and HOLD, up and down. */
+    /**
+     * Terms 2 (promise 18): "else, if there is a WAY to it": else nothing but TIME and HOLD, up and
+     * down.
+     */
     private static void noWayDoesNothing() {
         GearHolds x = chain();
         x.gear(4, 0);
@@ -960,7 +1068,10 @@ public final class TermsBoundsTest {
         }
     }
 
-    /** "each SHIFT of the WAY is done, one after the other, in this TICK": the most SHIFTS, in one. */
+    /**
+     * Terms 2 (promise 18): "each SHIFT of the WAY is done, one after the other, in this TICK": the
+     * most SHIFTS, in one.
+     */
     private static void eachShiftInOneTick() {
         GearHolds x = new GearHolds();
         x.gear(4, 3);
@@ -978,7 +1089,7 @@ public final class TermsBoundsTest {
         Due.is("HUNTED once", 1, x.state(7));
     }
 
-    /** "each LEARNT": of the most SHIFTS in one TICK each by its own COMING. */
+    /** Terms 2 (promise 18): "each LEARNT": of the most SHIFTS in one TICK each by its own COMING. */
     private static void eachShiftIsLearnt() {
         GearHolds x = new GearHolds();
         x.gear(4, 3);
@@ -998,7 +1109,10 @@ public final class TermsBoundsTest {
         Due.is("BINDS", 1, x.state(6));
     }
 
-    /** "If that was up": whither the WAY goes in all tells, not its SHIFTS: up by a lower GEAR. */
+    /**
+     * Terms 2 (promise 18): "If that was up": whither the WAY goes in all tells, not its SHIFTS: up
+     * by a lower GEAR.
+     */
     private static void upByALowerGear() {
         GearHolds x = new GearHolds();
         x.gear(4, 3);
@@ -1022,7 +1136,7 @@ public final class TermsBoundsTest {
         Due.is("no hunting, not up", 0, y.state(7));
     }
 
-    /** "If that was up: LAST UP is the TIME" (of that TICK, "NONE at first"). */
+    /** Terms 2 (promise 18): "If that was up: LAST UP is the TIME" (of that TICK, "NONE at first"). */
     private static void lastUpIsTheTime() {
         GearHolds x = Due.six();
         Due.is("LAST UP at first", NONE, x.state(3));
@@ -1050,7 +1164,7 @@ public final class TermsBoundsTest {
         Due.is("LAST UP, " + ticks + " TICKS behind up", 1, x.state(3));
     }
 
-    /** "If down, LAST UP having been 5 TICKS ago or less: it HUNTS". */
+    /** Terms 2 (promise 18): "If down, LAST UP having been 5 TICKS ago or less: it HUNTS". */
     private static void huntsFiveTicksAgoAtMost() {
         downBehindUp(1, 1);
         downBehindUp(4, 1);
@@ -1059,7 +1173,7 @@ public final class TermsBoundsTest {
         downBehindUp(60, 0);
     }
 
-    /** "LAST UP having been": NONE at first; the first TICKS do not hunt. */
+    /** Terms 2 (promise 18): "LAST UP having been": NONE at first; the first TICKS do not hunt. */
     private static void huntsNotWithoutLastUp() {
         for (int ticks = 1; ticks <= 6; ticks++) {
             GearHolds x = Due.two();
@@ -1073,7 +1187,7 @@ public final class TermsBoundsTest {
         }
     }
 
-    /** "by hand, no SHIFT done": up by hand is not LAST UP, down by hand does not hunt. */
+    /** Promise 19: "by hand, no SHIFT done": up by hand is not LAST UP, down by hand does not hunt. */
     private static void huntsNotByHand() {
         GearHolds x = Due.two();
         x.puts(1);
@@ -1086,7 +1200,7 @@ public final class TermsBoundsTest {
         Due.is("HOLD", 0, x.state(2));
     }
 
-    /** "if there is a WAY to it ..": wanted down without a WAY it does not hunt. */
+    /** Terms 2 (promise 18): "if there is a WAY to it ..": wanted down without a WAY it does not hunt. */
     private static void huntsNotWithoutAWay() {
         GearHolds x = Due.two();
         x.puts(1);
@@ -1098,7 +1212,10 @@ public final class TermsBoundsTest {
         Due.is("HOLD", 0, x.state(2));
     }
 
-    /** "it HUNTS: HOLD is 10": from the next TICK on it is less; again 10, if it hunts while held. */
+    /**
+     * Terms 2 (promise 18): "it HUNTS: HOLD is 10": from the next TICK on it is less; again 10, if
+     * it hunts while held.
+     */
     private static void holdIsTen() {
         GearHolds x = hunted();
         Due.is("HOLD", 10, x.state(2));

@@ -161,7 +161,7 @@ public final class TextBoundsTest {
         Due.is("p21: reads", 50, y.reads());
     }
 
-    /** Terms: "the first of: BAD ..; FULL ..": a byte outside behind a full TEXT. */
+    /** Promise 21, Terms 2: "the first of: BAD ..; FULL ..": a byte outside behind a full TEXT. */
     private static void typeIsBadAheadOfFull() {
         Bounds.refused("p21: type(-1), full", BAD, TextBoundsTest::full, x -> x.type(-1));
         Bounds.refused("p21: type(128), full", BAD, TextBoundsTest::full, x -> x.type(128));
@@ -225,13 +225,16 @@ public final class TextBoundsTest {
 
     // ---- reads
 
-    /** Terms: "the TEXT's length, if it ends too early (an empty one .., too)". */
+    /** Promise 23, Terms 2: "the TEXT's length, if it ends too early (an empty one .., too)". */
     private static void readsAnEmptyText() {
         Bounds.asked("p23: reads, empty", -10, Due::two, x -> x.reads());
         Bounds.asked("p23: reads, new", -10, GearHolds::new, x -> x.reads());
     }
 
-    /** Terms: "the TEXT's length, if it ends too early (.. one of blanks alone, too)": 1 and 150. */
+    /**
+     * Promise 23, Terms 2: "the TEXT's length, if it ends too early (.. one of blanks alone, too)":
+     * 1 and 150.
+     */
     private static void readsBlanksAlone() {
         Bounds.asked("p23: reads, a blank", -11, () -> typed(" "), x -> x.reads());
         Bounds.asked("p23: reads, full of blanks", -160, () -> typed(times(" ", 150)), x -> x.reads());
@@ -302,7 +305,10 @@ public final class TextBoundsTest {
         fault("x" + times("r1;", 49), 0);
     }
 
-    /** Terms: "the place of the first byte that can not stand there": the last byte of a full TEXT. */
+    /**
+     * Promise 23, Terms 2: "the place of the first byte that can not stand there": the last byte of
+     * a full TEXT.
+     */
     private static void readsWithAFaultAtTheLastByte() {
         fault(times("r1;", 49) + "r1r", 149);
         fault(times("r1;", 49) + "s1-", 149);
@@ -310,7 +316,7 @@ public final class TextBoundsTest {
         fault("r1;" + times(" ", 146) + "1", 149);
     }
 
-    /** Terms: "the TEXT's length, if it ends too early": of a full TEXT it is 150. */
+    /** Promise 23, Terms 2: "the TEXT's length, if it ends too early": of a full TEXT it is 150. */
     private static void readsWithAFaultBehindTheLastByte() {
         fault(times("r1;", 49) + "r 1", 150);
         fault(times("r1;", 49) + "  r", 150);
@@ -320,7 +326,10 @@ public final class TextBoundsTest {
 
     // ---- what can stand
 
-    /** Terms: "FAULT: the place of the first byte that can not stand there": all bytes, at each kind of place. */
+    /**
+     * Promise 23, Terms 2: "FAULT: the place of the first byte that can not stand there": all
+     * bytes, at each kind of place.
+     */
     private static void bytesThatCanStand() {
         canStand("", LETTERS + " ");
         canStand("  ", LETTERS + " ");
@@ -359,7 +368,10 @@ public final class TextBoundsTest {
         }
     }
 
-    /** Terms: "the TEXT's length, if it ends too early": each part of a TEXT but those of whole ORDERS. */
+    /**
+     * Promise 23, Terms 2: "the TEXT's length, if it ends too early": each part of a TEXT but those
+     * of whole ORDERS.
+     */
     private static void textsThatEndTooEarly() {
         String text = " g 7 16 ; s -1 ;v300 60;f0 1;t4 20;u7 300;d1 0;r3;";
         int orders = 0;
@@ -372,7 +384,7 @@ public final class TextBoundsTest {
         Due.is("ORDERS", 8, orders);
     }
 
-    /** Terms: "Numbers have 1 to 3 figures": noughts ahead count as figures. */
+    /** Promise 23, Terms 2: "Numbers have 1 to 3 figures": noughts ahead count as figures. */
     private static void numbersOfOneToThreeFigures() {
         String[] texts = {"r3;", "r03;", "r003;", "s-3;", "s-03;", "s-003;"};
         int[] driver = {3, 3, 3, 0, 0, 0};
@@ -392,7 +404,10 @@ public final class TextBoundsTest {
         reads("s999;", -1000);
     }
 
-    /** Terms: "(a fourth figure, too)": its place is the FAULT, in each number of each ORDER. */
+    /**
+     * Promise 23, Terms 2: "(a fourth figure, too)": its place is the FAULT, in each number of each
+     * ORDER.
+     */
     private static void numbersOfFourFigures() {
         fault("r0001;", 4);
         fault("s0001;", 4);
@@ -409,7 +424,10 @@ public final class TextBoundsTest {
         }
     }
 
-    /** Terms: "Numbers have 1 to 3 figures": none is too few, in each number of each ORDER. */
+    /**
+     * Promise 23, Terms 2: "Numbers have 1 to 3 figures": none is too few, in each number of each
+     * ORDER.
+     */
     private static void numbersOfNoFigure() {
         fault("r;", 1);
         fault("s;", 1);
@@ -425,7 +443,10 @@ public final class TextBoundsTest {
         }
     }
 
-    /** Terms: "blanks (32) may stand anywhere but within a number (none behind a -)": one, and many. */
+    /**
+     * Promise 23, Terms 2: "blanks (32) may stand anywhere but within a number (none behind a -)":
+     * one, and many.
+     */
     private static void blanksAnywhereButWithinANumber() {
         String[] parts = {"", "g", "7", " ", "16", ";", "s", "-3", ";", "v", "300", " ", "60", ";", "r", "3", ";", ""};
         for (int at = 1; at < parts.length; at++) {
@@ -449,7 +470,7 @@ public final class TextBoundsTest {
         Due.is("DRIVER of '" + text + "'", 3, x.state(9));
     }
 
-    /** Terms: "anywhere but within a number": figures behind a blank are another number. */
+    /** Promise 23, Terms 2: "anywhere but within a number": figures behind a blank are another number. */
     private static void blanksWithinANumber() {
         fault("r0 3;", 3);
         fault("s-0 3;", 4);
@@ -462,7 +483,7 @@ public final class TextBoundsTest {
         Due.is("UP", 2, y.of(1, 2));
     }
 
-    /** Terms: "(none behind a -)". */
+    /** Promise 23, Terms 2: "(none behind a -)". */
     private static void blanksBehindAMinus() {
         fault("s- 1;", 2);
         fault("s-  1;", 2);
@@ -472,7 +493,7 @@ public final class TextBoundsTest {
         reads("s  -1;", 1);
     }
 
-    /** Terms: "needed only where figures of two numbers would else stand side by side". */
+    /** Promise 23, Terms 2: "needed only where figures of two numbers would else stand side by side". */
     private static void blanksThatAreNeeded() {
         fault("g73;", 3);
         fault("v30060;", 4);
@@ -480,7 +501,7 @@ public final class TextBoundsTest {
         reads("g7 16;f0 1;t0 1;u1 2;d1 2;s1;s-1;r1;v1 1;", 9);
     }
 
-    /** Terms: "s SLOPE, perhaps - ahead": of no other number, and one alone. */
+    /** Promise 23, Terms 2: "s SLOPE, perhaps - ahead": of no other number, and one alone. */
     private static void minusAheadOfSlopeAlone() {
         reads("s-3;", 1);
         reads("s3;", 1);
@@ -500,7 +521,10 @@ public final class TextBoundsTest {
         }
     }
 
-    /** Terms: "perhaps - ahead": ahead of nought, too; and of the least SLOPE and one less. */
+    /**
+     * Promise 23, Terms 2: "perhaps - ahead": ahead of nought, too; and of the least SLOPE and one
+     * less.
+     */
     private static void minusZero() {
         GearHolds x = typed("s3;s-0;");
         Due.is("reads s-0", 2, x.reads());
@@ -509,7 +533,7 @@ public final class TextBoundsTest {
         reads("s-4;", -1000);
     }
 
-    /** Terms: "If there is one, nothing is done", "By .. a FAULT of it nothing counts". */
+    /** Promise 23, Terms 2: "If there is one, nothing is done", "By .. a FAULT of it nothing counts". */
     private static void faultsDoNothing() {
         String[] texts = {"g7 16;v300 60;f0 1;r", "r3;x", "g1 0;g2 0;r1234;", "v300 1;;"};
         int[] places = {20, 3, 14, 7};
@@ -525,7 +549,10 @@ public final class TextBoundsTest {
         return x;
     }
 
-    /** Terms: "If there is one, nothing is done": an ORDER ahead that would be refused does not stop it. */
+    /**
+     * Promise 23, Terms 2: "If there is one, nothing is done": an ORDER ahead that would be refused
+     * does not stop it.
+     */
     private static void faultsGoAheadOfOrdersThatStop() {
         GearHolds x = typed("g8 0;r4;x");
         Due.is("reads", -18, x.reads());
@@ -554,7 +581,10 @@ public final class TextBoundsTest {
         }
     }
 
-    /** Terms: "g GEAR SET (as gear); .. v speed n (as drives)": the least and the greatest of each. */
+    /**
+     * Promise 23, Terms 2: "g GEAR SET (as gear); .. v speed n (as drives)": the least and the
+     * greatest of each.
+     */
     private static void ordersAtTheirLeastAndGreatest() {
         order("g1 0;", x -> x.gear(1, 0));
         order("g7 31;", x -> x.gear(7, 31));
@@ -574,7 +604,10 @@ public final class TextBoundsTest {
         order("v300 60;", x -> x.drives(300, 60));
     }
 
-    /** Terms: "An ORDER that its call would refuse": one outside, of each number of each ORDER. */
+    /**
+     * Promise 23, Terms 2: "An ORDER that its call would refuse": one outside, of each number of
+     * each ORDER.
+     */
     private static void ordersOutside() {
         order("g0 1;", x -> x.gear(0, 1));
         order("g8 1;", x -> x.gear(8, 1));
@@ -601,7 +634,10 @@ public final class TextBoundsTest {
         order("s-999;", x -> x.slope(-999));
     }
 
-    /** Terms: "stops all: nothing is done", "By what THE TEXT tells .. nothing counts"; CAUSE is as before. */
+    /**
+     * Promise 23, Terms 2: "stops all: nothing is done", "By what THE TEXT tells .. nothing
+     * counts"; CAUSE is as before.
+     */
     private static void ordersThatStopDoNothing() {
         String[] texts = {"v300 60;g7 3;", "f0 1;g7 12;r3;", "g1 0;g7 5;g1 3;"};
         for (String text : texts) {
@@ -612,7 +648,10 @@ public final class TextBoundsTest {
         Due.is("ORDER of the busy one", 1, x.why(1));
     }
 
-    /** Terms: "An ORDER that its call would refuse", behind those ahead of it, not ahead of them. */
+    /**
+     * Promise 23, Terms 2: "An ORDER that its call would refuse", behind those ahead of it, not
+     * ahead of them.
+     */
     private static void ordersByWhatOrdersDidBefore() {
         reads("g6 16;g7 16;", -1001);
         reads("g1 0;g7 3;", 2);
@@ -620,7 +659,10 @@ public final class TextBoundsTest {
         reads("g1 16;g2 3;g1 5;", 3);
     }
 
-    /** Promise 23: "-1000 less the number (0 on) of the ORDER that stops all": the first, the first of two. */
+    /**
+     * Promise 23: "-1000 less the number (0 on) of the ORDER that stops all": the first, the first
+     * of two.
+     */
     private static void ordersStoppedByTheFirst() {
         reads("r4;", -1000);
         reads("r4;" + times("r1;", 49), -1000);
@@ -641,14 +683,14 @@ public final class TextBoundsTest {
         Due.counts("reads", x, 0, 0, 0, 2);
     }
 
-    /** Terms: "the first of: BAD ..; NO ..": CAUSE of an ORDER that is both is 2. */
+    /** Promise 23, Terms 2: "the first of: BAD ..; NO ..": CAUSE of an ORDER that is both is 2. */
     private static void ordersAreBadAheadOfNo() {
         GearHolds x = typed("g8 3;");
         Due.is("reads", -1000, x.reads());
         Due.is("KIND", 2, x.why(0));
     }
 
-    /** Terms: "IN becomes NEUTRAL at once": between ORDERS, too. */
+    /** Promise 23, Terms 2: "IN becomes NEUTRAL at once": between ORDERS, too. */
     private static void ordersDropIn() {
         GearHolds x = typed("f1 1;f1 0;");
         x.puts(1);
@@ -663,14 +705,17 @@ public final class TextBoundsTest {
 
     // ---- CAUSE
 
-    /** Terms: "KIND (0 at first", promise 24: "ORDER (1; NONE at first)". */
+    /** Promise 24, Terms 2: "KIND (0 at first", promise 24: "ORDER (1; NONE at first)". */
     private static void causeAtFirst() {
         GearHolds x = new GearHolds();
         Due.is("p24: KIND", 0, x.why(0));
         Due.is("p24: ORDER", NONE, x.why(1));
     }
 
-    /** Terms: "2 a number was not as told, 3 as NO tells", "ORDER (its number, from 0 on)". */
+    /**
+     * Promise 24, Terms 2: "2 a number was not as told, 3 as NO tells", "ORDER (its number, from 0
+     * on)".
+     */
     private static void causeOfEachKind() {
         GearHolds x = typed("s4;");
         x.reads();
@@ -686,7 +731,10 @@ public final class TextBoundsTest {
         Due.is("p24: ORDER, the last one", 1, x.why(1));
     }
 
-    /** Terms: "(as it is behind ORDERS that are all done, behind a FAULT, a STATE back, too)". */
+    /**
+     * Promise 24, Terms 2: "(as it is behind ORDERS that are all done, behind a FAULT, a STATE
+     * back, too)".
+     */
     private static void causeStays() {
         GearHolds x = typed("r1;g7 3;");
         x.reads();
@@ -749,7 +797,7 @@ public final class TextBoundsTest {
         return x;
     }
 
-    /** Terms: "leaves one .. to go back to", "5 at most": none lost up to five. */
+    /** Promise 25, Terms 2: "leaves one .. to go back to", "5 at most": none lost up to five. */
     private static void backFromOneToFive() {
         for (int calls = 1; calls <= 5; calls++) {
             GearHolds x = counted(calls);
@@ -762,7 +810,7 @@ public final class TextBoundsTest {
         }
     }
 
-    /** Terms: "5 at most, older ones lost": with the sixth the first is lost, and so on. */
+    /** Promise 25, Terms 2: "5 at most, older ones lost": with the sixth the first is lost, and so on. */
     private static void backBehindMoreThanFive() {
         for (int calls = 6; calls <= 20; calls++) {
             GearHolds x = counted(calls);
@@ -797,7 +845,7 @@ public final class TextBoundsTest {
         }
     }
 
-    /** Terms: "(all but THE TEXT, CAUSE, how often refused)". */
+    /** Promise 25, Terms 2: "(all but THE TEXT, CAUSE, how often refused)". */
     private static void backTakesAllButTextCauseAndRefused() {
         Bounds.left("p25: all goes back", 8, TextBoundsTest::typedAllOrders, x -> x.reads());
         GearHolds x = counted(1);
@@ -826,7 +874,7 @@ public final class TextBoundsTest {
         return x;
     }
 
-    /** Terms: "leaves one, also if nothing changes by it". */
+    /** Promise 25, Terms 2: "leaves one, also if nothing changes by it". */
     private static void statesAlsoIfNothingChanges() {
         GearHolds x = new GearHolds();
         x.driver(0);
@@ -837,7 +885,7 @@ public final class TextBoundsTest {
         Due.is("p25: digest", new GearHolds().digest(), x.digest());
     }
 
-    /** Terms: "each call told S": type, clear, back, digest and questions are not. */
+    /** Promise 25, Terms 2: "each call told S": type, clear, back, digest and questions are not. */
     private static void statesOfCallsNotToldS() {
         GearHolds x = counted(3);
         x.type('r');
@@ -860,7 +908,10 @@ public final class TextBoundsTest {
         Due.is("p25: UP", 2, x.of(7, 2));
     }
 
-    /** Terms: "leaves one, if it is not refused": refused, with five STATES, no older one is lost. */
+    /**
+     * Promise 25, Terms 2: "leaves one, if it is not refused": refused, with five STATES, no older
+     * one is lost.
+     */
     private static void refusedLeavesNoState() {
         GearHolds x = counted(5);
         x.gear(8, 1);
@@ -898,7 +949,10 @@ public final class TextBoundsTest {
         Due.is("p26: bytes, full", 150, full().told(3));
     }
 
-    /** Terms: "Refused (a question, too)", promise 26: "BAD": told itself counts, from then on. */
+    /**
+     * Promise 26, Terms 2: "Refused (a question, too)", promise 26: "BAD": told itself counts, from
+     * then on.
+     */
     private static void toldOutsideCountsItself() {
         GearHolds x = new GearHolds();
         Due.is("p26: told(5)", BAD, x.told(5));
@@ -920,7 +974,10 @@ public final class TextBoundsTest {
         }
     }
 
-    /** Terms: "Refused (a question, too), changing nothing but how often": each question's BAD and NO. */
+    /**
+     * Promise 26, Terms 2: "Refused (a question, too), changing nothing but how often": each
+     * question's BAD and NO.
+     */
     private static void questionsRefusedCount() {
         GearHolds x = Due.two();
         x.of(8, 0);
@@ -943,7 +1000,10 @@ public final class TextBoundsTest {
 
     // ---- digest
 
-    /** Promise 27: "h = 2411; then h = 31 h + v for each v": the values of a new object, put down one by one. */
+    /**
+     * Promise 27: "h = 2411; then h = 31 h + v for each v": the values of a new object, put down
+     * one by one.
+     */
     private static void digestOfANewObject() {
         long h = 2411;
         int[] toldAndWhy = {0, 0, 0, 0, 0, 0, -1};
