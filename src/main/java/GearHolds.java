@@ -410,7 +410,7 @@ public final class GearHolds {
                     }
                 }
             }
-            int steps = Math.max(0, away[from]);
+            int steps = isGear(from) ? Math.max(0, away[from]) : 0;
             int g = from;
             for (int i = 0; i < steps; i++) {
                 g = nearer(g, steps - i - 1);
@@ -448,8 +448,12 @@ public final class GearHolds {
 
         /** OVER of any SHIFT of which c is COMING: nothing of it hangs on the one that goes. */
         int overAt(int c, int t) {
-            int filled = WHOLE * (t - row[TRUE + c]) / row[RAMP];
-            int held = WHOLE * (t - row[FILL + c]) / row[RAMP];
+            if (!isClutch(c)) {
+                return 0;
+            }
+            int ramp = Math.max(1, row[RAMP]);
+            int filled = WHOLE * (t - row[TRUE + c]) / ramp;
+            int held = WHOLE * (t - row[FILL + c]) / ramp;
             int coming = Math.min(WHOLE, Math.max(0, filled));
             int going = WHOLE - Math.min(WHOLE, Math.max(0, held));
             return coming + going - WHOLE;
@@ -501,7 +505,7 @@ public final class GearHolds {
 
         int wanted(int v) {
             int in = row[IN];
-            if (in == NEUTRAL) {
+            if (!isGear(in)) {
                 return gears.nextFit(NEUTRAL, 1);
             }
             int added = 5 * (row[SLOPE] - LEVEL) + 10 * row[DRIVER];
@@ -513,42 +517,32 @@ public final class GearHolds {
             return below != NEUTRAL ? below : in;
         }
 
+        /* A TICK stands in its loop: as a method more it would take the calls nine deep. */
         int ticks(int v, int n) {
             for (int i = 0; i < n; i++) {
                 row[TIME]++;
-                if (row[HOLD] > 0) {
-                    row[HOLD]--;
+                row[HOLD] = Math.max(0, row[HOLD] - 1);
+                int from = row[IN];
+                int to = wanted(v);
+                if (from == NEUTRAL) {
+                    row[IN] = to;
+                } else if (to < from || to > from && row[HOLD] == 0) {
+                    int steps = gears.findWay(from, to);
+                    for (int step = 0; step < steps; step++) {
+                        int next = gears.onWay(step);
+                        shifts.learn(gears.coming(row[IN], next));
+                        row[IN] = next;
+                    }
+                    noteTurn(from);
                 }
-                goTo(wanted(v));
             }
             return row[IN];
         }
 
-        private void goTo(int to) {
-            int from = row[IN];
-            boolean up = from != NEUTRAL && to > from;
-            if (to == from || up && row[HOLD] > 0) {
-                return;
-            }
-            if (from == NEUTRAL) {
-                row[IN] = to;
-                return;
-            }
-            int steps = gears.findWay(from, to);
-            for (int i = 0; i < steps; i++) {
-                int next = gears.onWay(i);
-                shifts.learn(gears.coming(row[IN], next));
-                row[IN] = next;
-            }
-            if (steps > 0) {
-                noteTurn(up);
-            }
-        }
-
-        private void noteTurn(boolean up) {
-            if (up) {
+        private void noteTurn(int from) {
+            if (row[IN] > from) {
                 row[LAST_UP] = row[TIME];
-            } else if (row[LAST_UP] != NONE && row[TIME] - row[LAST_UP] <= HUNT_TICKS) {
+            } else if (row[IN] < from && row[LAST_UP] != NONE && row[TIME] - row[LAST_UP] <= HUNT_TICKS) {
                 row[HUNTS]++;
                 row[HOLD] = HOLD_TICKS;
             }
